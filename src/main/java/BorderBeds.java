@@ -806,20 +806,18 @@ public final class BorderBeds {
         }
 
         void addPerson(int kind, int land, int home, int miles) {
-            if (people < PEOPLE) {
-                persons[people] = personOf(kind, people, land, home, miles);
-                people++;
+            int number = people;
+            if (number >= PEOPLE) {
+                return;
             }
-        }
-
-        private static Person personOf(int kind, int number, int land, int home, int miles) {
             switch (kind) {
-                case Aunt.SORT: return new Aunt(number, land, home, miles);
-                case Envoy.SORT: return new Envoy(number, land, home, miles);
-                case Twin.SORT: return new Twin(number, land, home, miles);
-                case Child.SORT: return new Child(number, land, home, miles);
-                default: return new Monk(number, land, home, miles);
+                case Aunt.SORT: persons[number] = new Aunt(number, land, home, miles); break;
+                case Envoy.SORT: persons[number] = new Envoy(number, land, home, miles); break;
+                case Twin.SORT: persons[number] = new Twin(number, land, home, miles); break;
+                case Child.SORT: persons[number] = new Child(number, land, home, miles); break;
+                default: persons[number] = new Monk(number, land, home, miles); break;
             }
+            people++;
         }
 
         Person personAt(int person) {
