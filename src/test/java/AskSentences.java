@@ -187,7 +187,7 @@ final class AskSentences extends Sentences {
 
     /** No ASK leaves more than six numbers, so that 16 have room whatever is asked. */
     private static void traceEdges() {
-        holds("Promise 24", "Number i of THE TRACE; NONE.");
+        holds("Terms", "each of which leaves its number in THE TRACE as it begins (the first 16)");
         BorderBeds x = people();
         for (int i = -1; i <= 17; i++) {
             is("trace(" + i + "): an empty one", x.trace(i), NONE);

@@ -28,6 +28,7 @@ final class ForetoldSentences extends Sentences {
         heldIth();
         heldRefused();
         wentEdges();
+        wentColumns();
         wentNow();
         wentFirst();
         wentByOneCrossing();
@@ -359,6 +360,8 @@ final class ForetoldSentences extends Sentences {
         is("held(2, 0, -1): STATE and BAD", x.held(2, 0, -1), STATE);
         is("held(0, 1000, -2): STATE and BAD", x.held(0, 1000, -2), STATE);
         read(x, FLAT);
+        holds("Promise 17", "HELD of a LAND and a number (0 to 999): how many (i = -1), the i-th;"
+                + " NONE.");
         is("held(-1, 0, -1)", x.held(-1, 0, -1), BAD);
         is("held(0, 0, -1)", x.held(0, 0, -1), 0);
         is("held(1, 0, -1)", x.held(1, 0, -1), 0);
@@ -382,7 +385,8 @@ final class ForetoldSentences extends Sentences {
     }
 
     private static void wentEdges() {
-        holds("Promise 18", "WENT, 8 ITEMS of a ROW from i on");
+        holds("Promise 18", "WENT, 8 ITEMS of a ROW from i on: how many (what = 0), the first (1;"
+                + " NONE), whether it is so now (2).");
         BorderBeds x = on("posts 2 2 6;person aunt 0 3 3 0;");
         x.row(0, 0, 8);
         x.row(1, 1, 40);
@@ -404,6 +408,23 @@ final class ForetoldSentences extends Sentences {
         is("went(2, -1, 0)", x.went(2, -1, 0), PLACE);
         is("went(3, 0, 0): none", x.went(3, 0, 0), PLACE);
         unchanged(x, 0, 0);
+    }
+
+    private static void wentColumns() {
+        holds("Terms", "WENT: a row tells of each column, from x 0 on, how many CELLS of it the"
+                + " south HAS in the morning");
+        BorderBeds x = on("posts 5 5 6;guard 7 5;person aunt 1 0 0 0;");
+        crosses(x, 0, 0, 1);
+        souths(x, 0, 1, 2, 2, 3, 4, 4, 5);
+        row(x, 0, 0, 1, 2, 2, 3, 4, 4, 5);
+        row(x, 1, 5, 4, 4, 3, 2, 2, 1, 0);
+        row(x, 2, 5, 5, 5, 5, 5, 5, 5, 5);
+        went(x, 0, 0, 1, 0, 1);
+        went(x, 1, 0, 0, NONE, 0);
+        went(x, 2, 0, 0, NONE, 0);
+        x.undo();
+        went(x, 0, 0, 1, 0, 0);
+        went(x, 2, 0, 0, NONE, 1);
     }
 
     private static void wentNow() {

@@ -16,6 +16,7 @@ final class RefusalSentences extends Sentences {
     static void all() {
         refused();
         refusedAtOnce();
+        foundAtOnce();
         found();
         foretold();
         asked();
@@ -214,19 +215,25 @@ final class RefusalSentences extends Sentences {
         add("row(8, 0, -1)", BAD, x -> x.row(8, 0, -1));
         add("row(0, 3, -1)", BAD, x -> x.row(0, 3, -1));
         add("set(8, 40, 0)", BAD, x -> x.set(8, 40, 0));
-        add("set(3, 40, 0)", NULL, x -> x.set(3, 40, 0));
         add("copy(8, 0, 3, 0, 1)", BAD, x -> x.copy(8, 0, 3, 0, 1));
-        add("copy(3, 0, 0, 99, 1)", NULL, x -> x.copy(3, 0, 0, 99, 1));
-        add("copy(0, 0, 1, 0, 99)", STORE, x -> x.copy(0, 0, 1, 0, 99));
-        add("copy(0, 0, 1, -1, -1)", STORE, x -> x.copy(0, 0, 1, -1, -1));
         add("cross(5, 45)", BAD, x -> x.cross(5, 45));
         add("cross(4, 48)", BAD, x -> x.cross(4, 48));
         add("went(8, 99, 0)", BAD, x -> x.went(8, 99, 0));
         add("went(3, 0, 3)", BAD, x -> x.went(3, 0, 3));
-        add("went(3, 99, 0)", NULL, x -> x.went(3, 99, 0));
-        add("went(0, 3, 0)", PLACE, x -> x.went(0, 3, 0));
         add("as(0, 6)", BAD, x -> x.as(0, 6));
         add("as(5, 4)", BAD, x -> x.as(5, 4));
+        leaveAllElse();
+    }
+
+    private static void foundAtOnce() {
+        holds("Terms", "then FINDINGS, of several the first in time: -1000010 less 1 NULL");
+        add("set(3, 40, 0)", NULL, x -> x.set(3, 40, 0));
+        add("copy(3, 0, 0, 99, 1)", NULL, x -> x.copy(3, 0, 0, 99, 1));
+        add("copy(0, -1, 3, 0, 1)", NULL, x -> x.copy(0, -1, 3, 0, 1));
+        add("copy(0, 0, 1, 0, 99)", STORE, x -> x.copy(0, 0, 1, 0, 99));
+        add("copy(0, 0, 1, -1, -1)", STORE, x -> x.copy(0, 0, 1, -1, -1));
+        add("went(3, 99, 0)", NULL, x -> x.went(3, 99, 0));
+        add("went(0, 3, 0): an ITEM is 9, too", PLACE, x -> x.went(0, 3, 0));
         leaveAllElse();
     }
 

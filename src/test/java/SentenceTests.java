@@ -10,6 +10,7 @@ import java.nio.file.Path;
 public final class SentenceTests {
     public static void main(String[] args) throws Exception {
         Sentences.readDocument(Files.readString(Path.of(args[0]), StandardCharsets.ISO_8859_1));
+        UseSentences.all();
         RowSentences.all();
         TextSentences.all();
         FaultSentences.all();
